@@ -147,7 +147,14 @@ public final class WorldHall {
     }
 
     public int better() {
-        return plan.withGoods() > 0 ? STATE : plan.improve();
+        if (plan.withGoods() > 0) {
+            return STATE;
+        }
+        int moves = 0;
+        while (moves < Plan.MOST_MOVES && plan.moveFirst()) {
+            moves++;
+        }
+        return moves;
     }
 
     // ---- goods
@@ -581,7 +588,7 @@ public final class WorldHall {
     /** The stands and how they are laid on the floor. */
     private static final class Plan {
         static final int MOST_STANDS = 9;
-        private static final int MOST_MOVES = 50;
+        static final int MOST_MOVES = 50;
 
         private final Floor floor;
         private final Stand[] all;
@@ -748,15 +755,8 @@ public final class WorldHall {
             return twice / 2;
         }
 
-        int improve() {
-            int moves = 0;
-            while (moves < MOST_MOVES && moveFirst()) {
-                moves++;
-            }
-            return moves;
-        }
-
-        private boolean moveFirst() {
+        /** The first move that makes it cheaper is done: whether there was one. */
+        boolean moveFirst() {
             for (int s = 0; s < stands; s++) {
                 int to = all[s].isLaid() ? cheaperCell(all[s]) : NONE;
                 if (to != NONE) {
@@ -859,22 +859,18 @@ public final class WorldHall {
         private boolean canFollow(int laid, int in) {
             int rest = laid & ~in;
             for (int i = 0; i < Plan.MOST_STANDS && rest != 0; i++) {
-                int last = someLast(in, rest);
-                if (last == NONE) {
+                int before = rest;
+                for (int s = 0; s < plan.stands; s++) {
+                    int others = (in | rest) & ~(1 << s);
+                    if (holds(rest, s) && isReached(plan.all[s], others)) {
+                        rest &= ~(1 << s);
+                    }
+                }
+                if (rest == before) {
                     return false;
                 }
-                rest &= ~(1 << last);
             }
             return rest == 0;
-        }
-
-        private int someLast(int in, int rest) {
-            for (int s = 0; s < plan.stands; s++) {
-                if (holds(rest, s) && isReached(plan.all[s], (in | rest) & ~(1 << s))) {
-                    return s;
-                }
-            }
-            return NONE;
         }
     }
 

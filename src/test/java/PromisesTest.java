@@ -199,6 +199,10 @@ public final class PromisesTest {
         due("a tenth", plainStand(x, 0, 0), FULL);
         due("bad ahead of full", plainStand(x, 8, 0), BAD);
         due("nine", x.count(1), 9);
+        due("the last one is there", x.about(8, 3), NONE);
+        due("the last one can be laid", x.lay(8, 24), 0);
+        due("no tenth", x.about(9, 0), NONE);
+        due("no tenth", x.hinders(9, 0), NONE);
     }
 
     private static int standOf(WorldHall x, int[] n, int at, int other) {
@@ -226,15 +230,19 @@ public final class PromisesTest {
         due("a door, a shaft, deep", x.hinders(deep, 2), 2);
         due("a weak cell", x.hinders(wide, 15), 5);
         due("beside it", x.hinders(wide, 17), 0);
+        x.bears(0, 9);
+        x.bears(24, 9);
+        due("the first cell is weak", x.hinders(x.stand(0, 0, 0, 2, 1, 10), 0), 5);
+        due("the last cell is weak", x.hinders(2, 23), 5);
         due("it bears just as much", x.hinders(deep, 5), 0);
         due("it bears less", x.hinders(x.stand(0, 0, 0, 1, 1, 51), 5), 5);
         due("laid", x.lay(wide, 5), 0);
         due("another's cell", x.hinders(deep, 6), 3);
         due("it itself away", x.hinders(wide, 6), 0);
         due("of one class no aisle", x.hinders(deep, 10), 0);
-        due("3 ahead of 5", x.hinders(2, 7), 3);
+        due("3 ahead of 5", x.hinders(3, 7), 3);
         due("beyond the hall ahead of another's", x.hinders(wide, 8), 1);
-        due("no stand", x.hinders(3, 0), NONE);
+        due("no stand", x.hinders(4, 0), NONE);
         due("no cell", x.hinders(0, 25), NONE);
         for (int n : WRONG) {
             due("no stand", x.hinders(n, 0), NONE);
@@ -364,6 +372,7 @@ public final class PromisesTest {
         due("where it lay", x.take(s), 7);
         due("taken up", x.take(s), NONE);
         due("not there", x.at(7), NONE);
+        due("nor anywhere", x.at(0), NONE);
         due("none laid", x.count(2), 0);
     }
 
@@ -468,6 +477,29 @@ public final class PromisesTest {
         due("a wall to the wall's nearest, past the aisle", y.better(), 1);
         due("it moved", y.about(0, 3), 2);
         due("price", y.price(), 2);
+        WorldHall z = new WorldHall(2, 2);
+        plainStand(z, 0, 0);
+        plainStand(z, 1, 0);
+        z.lay(0, 4);
+        z.lay(1, 1);
+        due("the very first cell", z.better(), 1);
+        due("it moved there", z.about(0, 3), 0);
+        betterAtMost50();
+    }
+
+    private static void betterAtMost50() {
+        WorldHall x = new WorldHall(5, 5);
+        int[][] stands = {{1, 1, 2, 50}, {2, 1, 2, 39}, {1, 1, 1, 55}, {2, 1, 1, 32}, {1, 1, 2, 36}, {1, 2, 2, 14},
+            {1, 2, 2, 33}, {1, 2, 2, 8}, {0, 1, 1, 37}};
+        for (int s = 0; s < stands.length; s++) {
+            x.stand(0, stands[s][0], 0, stands[s][1], stands[s][2], 0);
+            due("laid", x.lay(s, stands[s][3]), 0);
+        }
+        int before = x.price();
+        due("50 moves at most", x.better(), 50);
+        due("each made it cheaper", before - x.price() >= 50 ? 1 : 0, 1);
+        due("one was left", x.better(), 1);
+        due("no more", x.better(), 0);
     }
 
     private static void can() {
@@ -778,6 +810,19 @@ public final class PromisesTest {
         due("it was 100", x.mark(0, 0, 7, 5), 100);
         due("one mark", x.count(5), 1);
         due("one of the stand", x.about(0, 6), 1);
+        WorldHall y = new WorldHall(0, 0);
+        for (int i = 0; i < 12; i++) {
+            plainStand(y, 0, 0);
+            y.juror(1 + i % 7, 0);
+        }
+        for (int i = 0; i < 12 * 9; i++) {
+            due("each to each", y.mark(i / 9, i % 9, i % 101, i), NONE);
+        }
+        due("all marks", y.count(5), 108);
+        due("of the last stand", y.about(8, 6), 12);
+        due("the first mark", y.mark(0, 0, 50, 0), 0);
+        due("the last mark", y.mark(11, 8, 50, 0), 107 % 101);
+        due("mean of all", y.mean(4, 999), (4 + 13 + 22 + 31 + 40 + 49 + 58 + 67 + 76 + 85 + 94 + 103 - 101) / 12);
     }
 
     private static void mean() {
