@@ -1,12 +1,5 @@
-import java.nio.charset.StandardCharsets;
-
 /** For each promise of the document: ordinary calls, the edges that it names, and wrong inputs. */
-public final class PromisesTest {
-    private static final int NONE = WorldHall.NONE, BAD = WorldHall.BAD, STATE = WorldHall.STATE, FULL = WorldHall.FULL;
-    private static final int[] WRONG = {-1, Integer.MIN_VALUE, Integer.MAX_VALUE};
-    private static int wrong = 0;
-    private static int promise = 0;
-
+public final class PromisesTest extends Bench {
     public static void main(String[] args) {
         newObject();
         cell();
@@ -47,45 +40,11 @@ public final class PromisesTest {
         hand();
         end();
         count();
-        System.out.println(wrong == 0 ? "all promises hold" : wrong + " answers are not as due");
-        if (wrong != 0) {
-            System.exit(1);
-        }
-    }
-
-    private static void due(String what, long got, long want) {
-        if (got != want) {
-            wrong++;
-            System.out.println("promise " + promise + ": " + what + " answered " + got + ", due is " + want);
-        }
-    }
-
-    private static void feedAll(WorldHall x, String words) {
-        for (byte b : words.getBytes(StandardCharsets.ISO_8859_1)) {
-            x.feed(b, 1);
-        }
-    }
-
-    private static int textOf(WorldHall x, int sort, int day, String words) {
-        feedAll(x, words);
-        int answer = x.text(sort, day);
-        due("bytes behind text " + words, x.count(12), 0);
-        return answer;
-    }
-
-    /** A hall of 5 by 5 with a door in the north west. */
-    private static WorldHall withDoor() {
-        WorldHall x = new WorldHall(2, 2);
-        x.cell(0, 1);
-        return x;
-    }
-
-    private static int plainStand(WorldHall x, int land, int of) {
-        return x.stand(0, land, of, 1, 1, 0);
+        finish();
     }
 
     private static void newObject() {
-        promise = 1;
+        promise(1);
         for (int w = -13; w <= 13; w++) {
             for (int h = -13; h <= 13; h++) {
                 int cells = (3 + Math.floorMod(w, 6)) * (3 + Math.floorMod(h, 6));
@@ -108,7 +67,7 @@ public final class PromisesTest {
     }
 
     private static void cell() {
-        promise = 2;
+        promise(2);
         WorldHall x = new WorldHall(2, 2);
         due("plain to shaft", x.cell(12, 2), 0);
         due("shaft to well", x.cell(12, 3), 2);
@@ -141,7 +100,7 @@ public final class PromisesTest {
     }
 
     private static void bears() {
-        promise = 3;
+        promise(3);
         WorldHall x = new WorldHall(2, 2);
         due("50 at first", x.bears(24, 0), 50);
         due("0", x.bears(24, 99), 0);
@@ -162,7 +121,7 @@ public final class PromisesTest {
     }
 
     private static void aisle() {
-        promise = 4;
+        promise(4);
         WorldHall x = new WorldHall(2, 2);
         due("1 at first", x.aisle(0), 1);
         due("0", x.aisle(3), 0);
@@ -179,7 +138,7 @@ public final class PromisesTest {
     }
 
     private static void stand() {
-        promise = 5;
+        promise(5);
         WorldHall x = new WorldHall(2, 2);
         int[] least = {0, 0, 0, 1, 1, 0};
         int[] greatest = {4, 7, 9, 4, 4, 99};
@@ -212,7 +171,7 @@ public final class PromisesTest {
     }
 
     private static void hindersByPlace() {
-        promise = 6;
+        promise(6);
         WorldHall x = new WorldHall(2, 2);
         x.cell(2, 1);
         x.cell(12, 2);
@@ -251,7 +210,7 @@ public final class PromisesTest {
     }
 
     private static void hindersByAisle() {
-        promise = 6;
+        promise(6);
         for (int n = 0; n <= 3; n++) {
             WorldHall x = new WorldHall(5, 5);
             x.aisle(n);
@@ -271,7 +230,7 @@ public final class PromisesTest {
     }
 
     private static void hindersByNeed() {
-        promise = 6;
+        promise(6);
         WorldHall x = new WorldHall(2, 2);
         x.cell(12, 2);
         x.cell(24, 3);
@@ -303,7 +262,7 @@ public final class PromisesTest {
     }
 
     private static void hindersByKin() {
-        promise = 6;
+        promise(6);
         WorldHall x = new WorldHall(2, 2);
         x.aisle(0);
         int joint = x.stand(4, 1, 2, 1, 1, 0);
@@ -328,7 +287,7 @@ public final class PromisesTest {
     }
 
     private static void lay() {
-        promise = 7;
+        promise(7);
         WorldHall x = withDoor();
         int s = x.stand(0, 0, 0, 2, 2, 0);
         due("hindered", x.lay(s, 0), 2);
@@ -357,7 +316,7 @@ public final class PromisesTest {
     }
 
     private static void take() {
-        promise = 8;
+        promise(8);
         WorldHall x = withDoor();
         int s = x.stand(0, 0, 0, 2, 2, 0);
         due("not laid", x.take(s), NONE);
@@ -377,7 +336,7 @@ public final class PromisesTest {
     }
 
     private static void about() {
-        promise = 9;
+        promise(9);
         WorldHall x = withDoor();
         x.cell(12, 3);
         plainStand(x, 0, 0);
@@ -404,7 +363,7 @@ public final class PromisesTest {
     }
 
     private static void at() {
-        promise = 10;
+        promise(10);
         WorldHall x = new WorldHall(2, 2);
         x.stand(0, 0, 0, 3, 2, 0);
         x.stand(0, 0, 0, 1, 1, 0);
@@ -421,7 +380,7 @@ public final class PromisesTest {
     }
 
     private static void price() {
-        promise = 11;
+        promise(11);
         WorldHall x = new WorldHall(2, 2);
         x.aisle(0);
         plainStand(x, 0, 0);
@@ -452,7 +411,7 @@ public final class PromisesTest {
     }
 
     private static void better() {
-        promise = 12;
+        promise(12);
         WorldHall x = withDoor();
         due("nothing is laid", x.better(), 0);
         plainStand(x, 0, 0);
@@ -503,7 +462,7 @@ public final class PromisesTest {
     }
 
     private static void can() {
-        promise = 13;
+        promise(13);
         WorldHall x = new WorldHall(2, 2);
         x.aisle(0);
         plainStand(x, 0, 0);
@@ -556,7 +515,7 @@ public final class PromisesTest {
     }
 
     private static void bring() {
-        promise = 14;
+        promise(14);
         WorldHall x = new WorldHall(0, 2);
         x.cell(1, 1);
         x.stand(0, 0, 0, 3, 1, 0);
@@ -580,7 +539,7 @@ public final class PromisesTest {
     }
 
     private static void clear() {
-        promise = 15;
+        promise(15);
         WorldHall x = withDoor();
         due("none", x.clear(), 0);
         plainStand(x, 0, 0);
@@ -600,7 +559,7 @@ public final class PromisesTest {
     }
 
     private static void row() {
-        promise = 16;
+        promise(16);
         WorldHall x = new WorldHall(0, 2);
         x.cell(1, 1);
         x.stand(0, 0, 0, 3, 1, 0);
@@ -643,7 +602,7 @@ public final class PromisesTest {
     }
 
     private static void feed() {
-        promise = 17;
+        promise(17);
         WorldHall x = new WorldHall(0, 0);
         for (int n : WRONG) {
             due("wrong n", x.feed(0, n), BAD);
@@ -670,7 +629,7 @@ public final class PromisesTest {
     }
 
     private static void textOfMedals() {
-        promise = 18;
+        promise(18);
         String[] good = {"gold at 90,bronze at 60", "gold at 1,silver at 22,bronze at 333", "silver at 000", "bronze at 5"};
         for (int i = 0; i < good.length; i++) {
             WorldHall x = new WorldHall(0, 0);
@@ -702,7 +661,7 @@ public final class PromisesTest {
     }
 
     private static void textOfDays() {
-        promise = 18;
+        promise(18);
         String[] good = {"pay 0", "pay 999", "pay 5 on 0,7", "pay 1 on 0,2 on 6,3 on 6,004 on 0,5"};
         for (int i = 0; i < good.length; i++) {
             WorldHall x = new WorldHall(0, 0);
@@ -736,7 +695,7 @@ public final class PromisesTest {
     }
 
     private static void textInForce() {
-        promise = 18;
+        promise(18);
         WorldHall x = new WorldHall(0, 0);
         feedAll(x, "pay 1");
         due("sort 2", x.text(2, 0), BAD);
@@ -767,7 +726,7 @@ public final class PromisesTest {
     }
 
     private static void juror() {
-        promise = 19;
+        promise(19);
         WorldHall x = new WorldHall(0, 0);
         for (int n : WRONG) {
             due("wrong land", x.juror(n, 0), BAD);
@@ -784,7 +743,7 @@ public final class PromisesTest {
     }
 
     private static void mark() {
-        promise = 20;
+        promise(20);
         WorldHall x = new WorldHall(0, 0);
         plainStand(x, 0, 0);
         due("no juror", x.mark(0, 0, 5, 5), -5);
@@ -826,7 +785,7 @@ public final class PromisesTest {
     }
 
     private static void mean() {
-        promise = 21;
+        promise(21);
         WorldHall x = new WorldHall(0, 0);
         plainStand(x, 0, 0);
         plainStand(x, 0, 0);
@@ -856,7 +815,7 @@ public final class PromisesTest {
     }
 
     private static void medal() {
-        promise = 22;
+        promise(22);
         WorldHall x = new WorldHall(0, 0);
         plainStand(x, 0, 0);
         x.juror(1, 0);
@@ -886,7 +845,7 @@ public final class PromisesTest {
     }
 
     private static void cost() {
-        promise = 23;
+        promise(23);
         WorldHall x = new WorldHall(0, 0);
         due("no text", x.cost(0), 0);
         textOf(x, 1, 7, "pay 1 on 0,20 on 3,300 on 3,4 on 6,55");
@@ -902,7 +861,7 @@ public final class PromisesTest {
     }
 
     private static void most() {
-        promise = 24;
+        promise(24);
         WorldHall x = new WorldHall(0, 0);
         for (int n : WRONG) {
             due("wrong", x.most(n), BAD);
@@ -922,7 +881,7 @@ public final class PromisesTest {
     }
 
     private static void minute() {
-        promise = 25;
+        promise(25);
         WorldHall x = new WorldHall(0, 0);
         textOf(x, 1, 0, "pay 3 on 0,5");
         for (int n : WRONG) {
@@ -954,7 +913,7 @@ public final class PromisesTest {
     }
 
     private static void bell() {
-        promise = 26;
+        promise(26);
         WorldHall x = new WorldHall(0, 0);
         textOf(x, 1, 0, "pay 1");
         x.most(5);
@@ -970,7 +929,7 @@ public final class PromisesTest {
     }
 
     private static void sight() {
-        promise = 27;
+        promise(27);
         WorldHall x = withDoor();
         x.cell(6, 2);
         x.cell(7, 3);
@@ -1000,7 +959,7 @@ public final class PromisesTest {
     }
 
     private static void canBe() {
-        promise = 28;
+        promise(28);
         WorldHall x = withDoor();
         x.cell(7, 2);
         x.cell(11, 3);
@@ -1033,7 +992,7 @@ public final class PromisesTest {
     }
 
     private static void places() {
-        promise = 29;
+        promise(29);
         WorldHall x = withDoor();
         due("no sight", x.places(0), STATE);
         due("no sight", x.places(Integer.MIN_VALUE), STATE);
@@ -1061,7 +1020,7 @@ public final class PromisesTest {
     }
 
     private static void found() {
-        promise = 30;
+        promise(30);
         WorldHall x = withDoor();
         due("none", x.found(), 0);
         x.sight(3, 50);
@@ -1073,7 +1032,7 @@ public final class PromisesTest {
     }
 
     private static void sell() {
-        promise = 31;
+        promise(31);
         WorldHall x = withDoor();
         due("no stand", x.sell(0, 5), NONE);
         plainStand(x, 0, 0);
@@ -1100,7 +1059,7 @@ public final class PromisesTest {
     }
 
     private static void hand() {
-        promise = 32;
+        promise(32);
         WorldHall x = withDoor();
         due("no stand", x.hand(0), NONE);
         for (int s = 0; s < 3; s++) {
@@ -1138,7 +1097,7 @@ public final class PromisesTest {
     }
 
     private static void end() {
-        promise = 33;
+        promise(33);
         WorldHall x = new WorldHall(0, 0);
         for (int n : WRONG) {
             due("wrong", x.end(n), BAD);
@@ -1150,7 +1109,7 @@ public final class PromisesTest {
     }
 
     private static void count() {
-        promise = 34;
+        promise(34);
         WorldHall x = withDoor();
         int[] fresh = {25, 0, 0, 0, 0, 0, 0, 0, 0, 0, 0, 0, 0, 0, NONE};
         for (int what = 0; what < fresh.length; what++) {
