@@ -828,7 +828,7 @@ public final class WorldHall {
         /** The stand at place i of the row, as if no goods were in. */
         int inOrder(int i) {
             int laid = laid();
-            if (i < 0 || i >= Integer.bitCount(laid) || !canFollow(laid, 0)) {
+            if (i < 0 || i >= Integer.bitCount(laid)) {
                 return NONE;
             }
             int in = 0;
@@ -985,7 +985,6 @@ public final class WorldHall {
 
         void empty() {
             size = 0;
-            place = 0;
         }
 
         boolean readMedals(Text into) {

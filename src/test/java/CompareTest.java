@@ -54,7 +54,7 @@ public final class CompareTest {
 
     private boolean holds(int seed) throws ReflectiveOperationException {
         prepare();
-        for (int i = 0; i < CALLS && !differs && told.size() < CALLS; i++) {
+        for (int i = 0; i < CALLS; i++) {
             if (random.nextInt(20) == 0) {
                 feedSome();
             } else {
@@ -105,7 +105,11 @@ public final class CompareTest {
         }
     }
 
+    /** Behind the last call that the document promises an answer for nothing more is asked. */
     private void ask(Method method, Object[] arguments) throws ReflectiveOperationException {
+        if (differs || told.size() >= CALLS) {
+            return;
+        }
         Object want = PlainHall.class.getDeclaredMethod(method.getName(), method.getParameterTypes()).invoke(plain, arguments);
         Object got = method.invoke(hall, arguments);
         told.add(method.getName() + Arrays.toString(arguments) + " " + got);
@@ -178,7 +182,7 @@ public final class CompareTest {
                 default: words.insert(at, LETTERS[random.nextInt(LETTERS.length)]);
             }
         }
-        for (int i = 0; i < words.length() && !differs; ) {
+        for (int i = 0; i < words.length(); ) {
             int n = Math.min(1 + random.nextInt(8), words.length() - i);
             long word = random.nextBoolean() ? 0 : random.nextLong();
             for (int j = 0; j < n; j++) {
@@ -187,9 +191,7 @@ public final class CompareTest {
             ask("feed", word, n);
             i += n;
         }
-        if (!differs) {
-            ask("text", random.nextInt(15) == 0 ? 1 - sort : sort, day());
-        }
+        ask("text", random.nextInt(15) == 0 ? 1 - sort : sort, day());
     }
 
     private String medals() {

@@ -12,6 +12,7 @@ public final class GoodsEdgesTest extends Bench {
         noRow();
         rowOfOne();
         rowOfNine();
+        rowInACorridor();
         lesserStandFirst();
         rowWithoutGoods();
         rowPastTheEdge();
@@ -269,6 +270,27 @@ public final class GoodsEdgesTest extends Bench {
         }
         due("all nine", x.count(3), 9);
         rowIs(ofNine(2, 0), new int[] {0, 1, 8, 7, 6, 5, 4, 3, 2});
+    }
+
+    /** One way leads past all nine: 7 in the north, 2 in the east. */
+    private static void rowInACorridor() {
+        says("THE ROW: an order of all LAID STANDS by which each can be brought in");
+        for (int deepest = 0; deepest < 9; deepest += 8) {
+            WorldHall x = hallOf(8, 3);
+            x.cell(0, DOOR);
+            for (int column = 0; column < 7; column++) {
+                x.cell(8 + column, SHAFT);
+            }
+            int[] order = new int[9];
+            for (int s = 0; s < 9; s++) {
+                plainStand(x, 0, 0);
+                int depth = Math.abs(deepest - s);
+                order[depth] = s;
+                x.lay(s, depth == 0 ? 23 : depth == 1 ? 15 : 9 - depth);
+            }
+            due("nine are laid", x.count(2), 9);
+            rowIs(x, order);
+        }
     }
 
     private static void rowIs(WorldHall x, int[] order) {

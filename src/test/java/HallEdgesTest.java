@@ -36,6 +36,7 @@ public final class HallEdgesTest extends Bench {
         betterPastHindrances();
         betterItselfAway();
         betterFiftyTimes();
+        betterWithGoodsIn();
         finish();
     }
 
@@ -685,7 +686,7 @@ public final class HallEdgesTest extends Bench {
 
     private static void betterInOrder() {
         says("the first MOVE (by STANDS, then CELLS) of a LAID STAND");
-        WorldHall x = hallOf(8, 3);
+        WorldHall x = hallOf(8, 8);
         plainStand(x, 5, 9);
         plainStand(x, 0, 0);
         plainStand(x, 1, 0);
@@ -737,10 +738,30 @@ public final class HallEdgesTest extends Bench {
             {1, 2, 2, 33}, {1, 2, 2, 8}, {0, 1, 1, 37}};
         for (int s = 0; s < stands.length; s++) {
             x.stand(PLAIN, stands[s][0], 0, stands[s][1], stands[s][2], 0);
-            x.lay(s, stands[s][3]);
+            due("laid", x.lay(s, stands[s][3]), 0);
         }
+        int before = x.price();
         due("the fiftieth is done, no more", x.better(), 50);
+        due("each made it cheaper", before - x.price() >= 50 ? 1 : 0, 1);
         due("the fifty-first is left", x.better(), 1);
         due("none is left", x.better(), 0);
+    }
+
+    private static void betterWithGoodsIn() {
+        says("TO BETTER: how many MOVES. STATE: some GOODS are in.");
+        WorldHall x = withDoor();
+        for (int s = 0; s < 3; s++) {
+            plainStand(x, s, 0);
+        }
+        x.lay(0, 4);
+        x.lay(1, 20);
+        x.lay(2, 24);
+        for (int s = 0; s < 3; s++) {
+            x.bring(s);
+            due("goods of one are in", x.better(), STATE);
+            due("nothing was moved", x.price(), 16);
+            x.clear();
+        }
+        due("no goods are in", x.better() > 0 ? 1 : 0, 1);
     }
 }

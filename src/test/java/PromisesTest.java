@@ -443,22 +443,6 @@ public final class PromisesTest extends Bench {
         z.lay(1, 1);
         due("the very first cell", z.better(), 1);
         due("it moved there", z.about(0, 3), 0);
-        betterAtMost50();
-    }
-
-    private static void betterAtMost50() {
-        WorldHall x = new WorldHall(5, 5);
-        int[][] stands = {{1, 1, 2, 50}, {2, 1, 2, 39}, {1, 1, 1, 55}, {2, 1, 1, 32}, {1, 1, 2, 36}, {1, 2, 2, 14},
-            {1, 2, 2, 33}, {1, 2, 2, 8}, {0, 1, 1, 37}};
-        for (int s = 0; s < stands.length; s++) {
-            x.stand(0, stands[s][0], 0, stands[s][1], stands[s][2], 0);
-            due("laid", x.lay(s, stands[s][3]), 0);
-        }
-        int before = x.price();
-        due("50 moves at most", x.better(), 50);
-        due("each made it cheaper", before - x.price() >= 50 ? 1 : 0, 1);
-        due("one was left", x.better(), 1);
-        due("no more", x.better(), 0);
     }
 
     private static void can() {

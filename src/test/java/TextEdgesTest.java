@@ -21,6 +21,7 @@ public final class TextEdgesTest extends Bench {
         faultFarOff();
         textNumbers();
         tapeIsEmptyThen();
+        nothingIsLeftOfAFault();
         sixOfASort();
         fromADayOn();
         tillALaterOne();
@@ -304,6 +305,22 @@ public final class TextEdgesTest extends Bench {
         feedAll(x, "ay 6");
         due("read", x.text(DAYS, 0), 2);
         due("in force", x.cost(0), 6);
+    }
+
+    private static void nothingIsLeftOfAFault() {
+        says("-10 less the FAULT (THE TAPE is empty then, too)");
+        WorldHall x = hallOf(3, 3);
+        judged(x, 50, 50);
+        due("a fault behind two names", textOf(x, MEDALS, 0, "gold at 10,silver at 20,bronze at x"), -10 - 34);
+        due("no text", x.medal(0, 0), 0);
+        due("one name", textOf(x, MEDALS, 0, "bronze at 90"), 1);
+        due("the names of the fault do not count", x.medal(0, 0), 0);
+        due("a fault behind a text of three", textOf(x, MEDALS, 0, "gold at 1,silver at 1,bronze at 1,"), -10 - 33);
+        due("the text is as it was", x.medal(0, 0), 0);
+        due("a fault behind two weekdays", textOf(x, DAYS, 0, "pay 1 on 0,2 on 1,x"), -10 - 18);
+        due("no text", x.cost(0), 0);
+        due("a text", textOf(x, DAYS, 0, "pay 3"), 1);
+        due("the weekdays of the fault do not count", x.cost(0) + x.cost(1), 6);
     }
 
     private static void sixOfASort() {
