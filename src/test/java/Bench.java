@@ -22,6 +22,11 @@ abstract class Bench {
         place = "promise " + n;
     }
 
+    /** From here on the answers are about something that is no promise. */
+    static void place(String what) {
+        place = what;
+    }
+
     /** From here on the answers are about a sentence, which must stand in the document to the letter. */
     static void says(String sentence) {
         place = '"' + sentence + '"';
